@@ -279,7 +279,7 @@ public final class RefineRegions {
             return x >= 0 && x < width && y >= 0 && y < height;
         }
 
-        /** Tests for itself, since the deepest calls end here and one more would be too deep. */
+        /** Looks for itself instead of asking holds(), since the deepest chains of calls end here. */
         private int pixel(int x, int y) {
             return x >= 0 && x < width && y >= 0 && y < height ? cells[y * side + x] : 0;
         }
