@@ -60,6 +60,10 @@ final class Checks {
         same(what, outcome(call), "throws.IndexOutOfBoundsException");
     }
 
+    int wrong() {
+        return wrong;
+    }
+
     void end(String name) {
         System.out.println(name + ": " + made + " checks, " + wrong + " wrong");
         if (wrong != 0) {
