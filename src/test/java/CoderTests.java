@@ -286,7 +286,7 @@ public final class CoderTests {
     }
 
     private static void lastTwoBytes() {
-        coded("T is 7 for the second", "FF 7F FF AC", Scene.rows("#"), ".");
+        coded("T is 7 for the second", "FF 4F FF AC", Scene.rows("#####.##."), ".###.#.##");
         coded("T is 8 for the second", "E5 05 EA 7F FF AC", Scene.rows("###.#", ".##.#", "#..##", "...#."),
                 ".....", ".....", ".....", ".....");
     }
@@ -337,6 +337,8 @@ public final class CoderTests {
     private static void beforeAMark() {
         CHECKS.same("144 is above", Scene.read(8, 1, "FF 90 90 90 90 16 6C 91"), "######## B 0");
         CHECKS.same("65280 more", Scene.read(3, 3, "FF 90 F8 4E 90 90"), "### .#. .## B 0");
+        CHECKS.same("not one more", Scene.read(8, 3, "FF FE 10 25"), "######## .####### .####### B 0");
+        CHECKS.same("not one less", Scene.read(23, 1, "BB"), "#.##..####.##.#..###.#. B 1");
         CHECKS.same("T is 8", Scene.read(5, 3, "13"), ".#### .###. ##.## B 1");
         CHECKS.same("B stays", Scene.read(5, 4, "BB FF F1 8F 7A"), "#.##. ###.. .#... ###.# B 1");
     }
@@ -391,6 +393,38 @@ public final class CoderTests {
 
     private static void readUntilAIsLarge() {
         CHECKS.same("A comes to 32768 just", Scene.read(11, 1, "1E 0D 8F"), ".#.#.#.#..# B 2");
+        asOftenAsCanBe();
+    }
+
+    /** In state 45 q is 1: a bit that is not the likely one leaves A 1, to be doubled 15 times. */
+    private static void asOftenAsCanBe() {
+        RefineRegions x = Scene.white(12, 1, 0, false);
+        Oracle oracle = new Oracle();
+        oracle.shape(12, 1, 0, false);
+        oracle.reference(1, 1);
+        x.keep(true);
+        oracle.keep(true);
+        for (int i = 0; i < 16; i++) {
+            x.encode();
+            x.decode();
+            oracle.encode();
+            oracle.decode();
+        }
+        CHECKS.same("state 45 of encode", x.state(0, false), 2 * 45);
+        CHECKS.same("state 45 of decode", x.state(0, true), 2 * 45);
+        String picture = "#.##.#.#####";
+        for (int i = 0; i < 12; i++) {
+            x.put(i, 0, picture.charAt(i) == '#');
+            oracle.put(i, 0, picture.charAt(i) == '#');
+        }
+        CHECKS.same("how many bytes", x.encode(), oracle.encode());
+        for (int i = 0; i < oracle.told(0); i++) {
+            CHECKS.same("byte " + i, x.byteAt(i), oracle.byteAt(i));
+        }
+        CHECKS.same("black ones", x.decode(), oracle.decode());
+        CHECKS.same("what was read", Scene.found(x, 12, 1), picture);
+        CHECKS.same("B", x.told(4), oracle.told(4));
+        CHECKS.same("the state", x.state(0, true), oracle.state(0, true));
     }
 
     private static void cIsKeptTo32Bits() {

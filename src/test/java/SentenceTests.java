@@ -2,7 +2,7 @@ import java.util.function.Consumer;
 
 /** The sentences of the promises that name a boundary, each by itself; Terms have their own. */
 public final class SentenceTests {
-    private static final int NONE = RefineRegions.NONE;
+    private static final int NONE = -1;
     private static final int LEAST = Integer.MIN_VALUE;
     private static final int MOST = Integer.MAX_VALUE;
     private static final String BAD_ARGUMENT = "IllegalArgumentException";
@@ -23,6 +23,8 @@ public final class SentenceTests {
     }
 
     private static void aNewObject(Sentences sentences) {
+        sentences.test("The public face", "public static final int NONE = -1;",
+                () -> CHECKS.same("NONE", RefineRegions.NONE, NONE));
         String p1 = "Promise 1";
         sentences.test(p1, "The picture is 8 by 8, white", SentenceTests::newPicture);
         sentences.test(p1, "template 0, not typical", SentenceTests::newCoding);
@@ -440,8 +442,12 @@ public final class SentenceTests {
         x.encode();
         CHECKS.same("encode goes on", x.state(0, false), 4);
         CHECKS.same("decode has its own", x.state(0, true), 0);
+        x.wipe();
+        x.feed(2, 0L);
         x.decode();
-        CHECKS.same("decode begins for itself", x.state(0, true) >> 1, 1);
+        CHECKS.same("decode begins for itself", x.state(0, true), 2);
+        x.decode();
+        CHECKS.same("decode goes on", x.state(0, true), 12);
         CHECKS.same("and leaves those of encode", x.state(0, false), 4);
         x.keep(false);
         x.encode();
@@ -524,7 +530,7 @@ public final class SentenceTests {
         int there = x.encode();
         int rest = (count - there) % 8;
         there = rest == 0 ? there : x.feed(rest, 0L);
-        while (there < count) {
+        for (int i = there; i < count; i += 8) {
             there = x.feed(8, 0x0807060504030201L);
         }
         CHECKS.same("bytes that are there", there, count);

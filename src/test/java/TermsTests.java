@@ -2,7 +2,7 @@ import java.util.function.BiPredicate;
 
 /** The sentences of 'Terms' about pictures, contexts and rows that name a boundary, each by itself. */
 public final class TermsTests {
-    private static final int NONE = RefineRegions.NONE;
+    private static final int NONE = -1;
     private static final String TERMS = "Terms";
     private static final Checks CHECKS = new Checks();
     private static final Refusals REFUSALS = new Refusals(CHECKS);
@@ -146,16 +146,17 @@ public final class TermsTests {
         CHECKS.same("and is one bit of a context", x.context(1, 0), 1);
     }
 
-    /** What a context is where both picture and reference are all black, by what lies inside. */
-    private static int contextOfBlack(int x, int y, int template, BiPredicate<Integer, Integer> inside) {
+    /** A context, worked out from where the picture and the reference (unmoved) are black. */
+    private static int contextOf(int x, int y, int template, BiPredicate<Integer, Integer> picture,
+            BiPredicate<Integer, Integer> reference) {
         int context = 0;
         int weight = 1;
         for (int[] d : PICTURE_PLACES) {
-            context += inside.test(x + d[0], y + d[1]) ? weight : 0;
+            context += picture.test(x + d[0], y + d[1]) ? weight : 0;
             weight *= 2;
         }
         for (int[] d : template == 0 ? REFERENCE_PLACES_0 : REFERENCE_PLACES_1) {
-            context += inside.test(x + d[0], y + d[1]) ? weight : 0;
+            context += reference.test(x + d[0], y + d[1]) ? weight : 0;
             weight *= 2;
         }
         return context;
@@ -170,15 +171,68 @@ public final class TermsTests {
             x.shape(4, 3, template, false);
             Scene.draw(x, "####", "####", "####");
             Scene.refer(x, "####", "####", "####");
-            for (int v = 0; v < 3; v++) {
-                for (int u = 0; u < 4; u++) {
-                    CHECKS.same("template " + template + ", all black, at " + u + ", " + v, x.context(u, v),
-                            contextOfBlack(u, v, template, (a, b) -> a >= 0 && a < 4 && b >= 0 && b < 3));
-                }
+            BiPredicate<Integer, Integer> black = (u, v) -> u >= 0 && u < 4 && v >= 0 && v < 3;
+            for (int i = 0; i < 12; i++) {
+                CHECKS.same("template " + template + ", all black, pixel " + i, x.context(i % 4, i / 4),
+                        contextOf(i % 4, i / 4, template, black, black));
             }
+            outsideOfTheLargestPicture(template);
+            outsideOfTheLargestReference(template);
         }
         farPlacesAreWhite();
         whatWasTakenIsWhiteOutside();
+    }
+
+    private static boolean onFrame(int u, int v, int side) {
+        boolean inside = u >= 0 && u < side && v >= 0 && v < side;
+        return inside && (u == 0 || u == side - 1 || v == 0 || v == side - 1);
+    }
+
+    /** A black frame: what lies beyond one border must not be the other one. */
+    private static void outsideOfTheLargestPicture(int template) {
+        RefineRegions x = new RefineRegions();
+        x.shape(40, 40, template, false);
+        x.reference(1, 1);
+        for (int i = 0; i < 1600; i++) {
+            if (onFrame(i % 40, i / 40, 40)) {
+                x.put(i % 40, i / 40, true);
+            }
+        }
+        for (int i = 0; i < 40; i++) {
+            int[][] places = {{0, i}, {39, i}, {i, 0}, {i, 39}};
+            for (int[] p : places) {
+                CHECKS.same("frame of a picture, " + p[0] + ", " + p[1], x.context(p[0], p[1]),
+                        contextOf(p[0], p[1], template, (u, v) -> onFrame(u, v, 40), (u, v) -> false));
+            }
+        }
+        x.encode();
+        x.decode();
+        CHECKS.same("the frame, read back", x.told(5), 0);
+    }
+
+    private static void outsideOfTheLargestReference(int template) {
+        RefineRegions x = new RefineRegions();
+        x.shape(40, 40, template, false);
+        x.reference(60, 60);
+        for (int i = 0; i < 3600; i++) {
+            if (onFrame(i % 60, i / 60, 60)) {
+                x.refer(i % 60, i / 60, true);
+            }
+        }
+        for (int i = 0; i < 40; i++) {
+            frameOfAReference(x, template, 0, 0, i);
+            frameOfAReference(x, template, 0, i, 0);
+        }
+        x.offset(-20, -20);
+        for (int i = 0; i < 40; i++) {
+            frameOfAReference(x, template, 20, 39, i);
+            frameOfAReference(x, template, 20, i, 39);
+        }
+    }
+
+    private static void frameOfAReference(RefineRegions x, int template, int moved, int u, int v) {
+        CHECKS.same("frame of a reference, " + u + ", " + v, x.context(u, v),
+                contextOf(u + moved, v + moved, template, (a, b) -> false, (a, b) -> onFrame(a, b, 60)));
     }
 
     private static void farPlacesAreWhite() {
@@ -453,10 +507,22 @@ public final class TermsTests {
                 "......", "......", "...###", "...#.#", "...###", "......");
         typicalRows("no row", 0, Scene.rows("."), "#.", ".#", "##");
         typicalRows("a row in which no nine agree", 1, Scene.rows(".#"), "#.");
+        rowBesideBlack();
         RefineRegions x = Scene.of(0, true, Scene.rows("#."), Scene.rows(".#"));
         x.encode();
         CHECKS.same("a row in which no nine agree: nothing is skipped", x.told(1), 0);
         CHECKS.same("a row in which no nine agree: bits", x.told(3), 3);
+    }
+
+    /** The reference goes on to be black where the picture has ended. */
+    private static void rowBesideBlack() {
+        RefineRegions x = Scene.of(0, true, Scene.rows("##"), Scene.rows("######", "######", "######"));
+        for (int dx = -3; dx <= -1; dx++) {
+            x.offset(dx, -1);
+            x.encode();
+            CHECKS.same("beside black: rows", x.told(2), 1);
+            CHECKS.same("beside black: skipped", x.told(1), 2);
+        }
     }
 
     private static void typicalRows(String what, int due, String[] reference, String... picture) {
