@@ -692,13 +692,12 @@ public final class SentenceTests {
         CHECKS.holds("take", x.take());
         CHECKS.badIndex("the width", () -> x.refer(3, 0, true));
         CHECKS.badIndex("the height", () -> x.refer(0, 2, true));
-        CHECKS.same("offset 0, 0", x.context(0, 0) >> 4,
-                (1 << 8 | 1 << 4) >> 4);
-        String drawn = "";
+        CHECKS.same("offset 0, 0", x.context(0, 0), 1 << 8 | 1 << 4);
+        StringBuilder drawn = new StringBuilder();
         for (int i = 0; i < 6; i++) {
-            drawn += x.refer(i % 3, i / 3, true) ? "#" : ".";
+            drawn.append(x.refer(i % 3, i / 3, true) ? '#' : '.');
         }
-        CHECKS.same("its pixels", drawn, "#...##");
+        CHECKS.same("its pixels", drawn.toString(), "#...##");
         CHECKS.same("what was read isn't the reference itself", Scene.found(x, 3, 2), "#.. .##");
         x.wipe();
         x.decode();
