@@ -1,8 +1,9 @@
 import java.util.ArrayList;
+import java.util.Arrays;
 import java.util.List;
 
 /**
- * The sentences of 'Terms' about the coder that name a boundary, each by itself. The bytes and
+ * The sentences of 'Terms' about the coder, each by itself. The bytes and
  * pictures that are due were worked out apart from the class, and each scene was chosen, as small as
  * it could be found, because it comes out otherwise when the sentence is broken.
  */
@@ -11,18 +12,23 @@ public final class CoderTests {
     private static final Checks CHECKS = new Checks();
 
     public static void main(String[] args) {
-        Sentences sentences = new Sentences(CHECKS);
+        all(Sentences.running(CHECKS));
+        CHECKS.end("CoderTests");
+    }
+
+    static void all(Sentences sentences) {
         states(sentences);
         bitsWritten(sentences);
         bytesWritten(sentences);
         bytesRead(sentences);
         bitsRead(sentences);
-        CHECKS.end("CoderTests");
     }
 
     private static void states(Sentences sentences) {
+        sentences.test(TERMS, "THE CODER has for each context", CoderTests::eachContextHasItsOwn);
         sentences.test(TERMS, "a STATE, 0 to 46, and the bit that is LIKELY, both 0 at first",
                 CoderTests::statesAtFirst);
+        sentences.test(TERMS, "Of states 0 to 46 there are four numbers: q", CoderTests::sharesOfStates);
         sentences.test(TERMS, "the next state when the bit is the likely one, that when it isn't, and whether"
                 + " the likely one turns then", CoderTests::everyStateGoesOn);
     }
@@ -30,49 +36,58 @@ public final class CoderTests {
     private static void bitsWritten(Sentences sentences) {
         sentences.test(TERMS, "A is 32768, C 0, T 12 at first", CoderTests::writingBeginsAnew);
         sentences.test(TERMS, "no byte is there (the last one counts as 0)", CoderTests::noByteIsThere);
-        sentences.test(TERMS, "if A is 32768 at least, C more q, and that's all", CoderTests::likelyAndNoMore);
-        sentences.test(TERMS, "else, if A is below q, A is q, else C more q", CoderTests::likelyAndRenewed);
+        sentences.test(TERMS, "A bit: A less q. If it is likely: if A is 32768 at least, C more q, and that's all",
+                CoderTests::likelyAndNoMore);
+        sentences.test(TERMS, "else, if A is below q, A is q, else C more q; the next state; RENEWED",
+                CoderTests::likelyAndRenewed);
         sentences.test(TERMS, "If it isn't: if A is below q, C more q, else A is q", CoderTests::notLikely);
-        sentences.test(TERMS, "the likely one turns, if the state says so", CoderTests::theLikelyOneTurns);
+        sentences.test(TERMS, "the likely one turns, if the state says so; the next state",
+                CoderTests::theLikelyOneTurns);
+        sentences.test(TERMS, "RENEWED: A and C are doubled, T is 1 less, and, when that is 0, a byte goes out",
+                CoderTests::bytesGoOutInTime);
         sentences.test(TERMS, "again as long as A is below 32768", CoderTests::renewedUntilAIsLarge);
     }
 
     private static void bytesWritten(Sentences sentences) {
-        sentences.test(TERMS, "if the last one is 255: a byte C by 2^20, C modulo 2^20, T 7",
+        sentences.test(TERMS, "A BYTE GOES OUT: if the last one is 255: a byte C by 2^20, C modulo 2^20, T 7",
                 CoderTests::behind255);
-        sentences.test(TERMS, "if C is 2^27 or more: the last byte is 1 more", CoderTests::carry);
+        sentences.test(TERMS, "Else, if C is 2^27 or more: the last byte is 1 more", CoderTests::carry);
         sentences.test(TERMS, "(where none is there it never comes to that)", CoderTests::noCarryAtFirst);
-        sentences.test(TERMS, "if that made it 255, as before", CoderTests::carryMakes255);
+        sentences.test(TERMS, "C is 2^27 less; if that made it 255, as before", CoderTests::carryMakes255);
         sentences.test(TERMS, "In all other cases: a byte C by 2^19, C modulo 2^19, T 8",
                 CoderTests::plainBytes);
-        sentences.test(TERMS, "if C is U at least then, it is 32768 less", CoderTests::lastBitsOfC);
+        sentences.test(TERMS, "AT THE END: with U, C and A together: the 16 lowest bits of C become 1; if C is U at"
+                + " least then, it is 32768 less", CoderTests::lastBitsOfC);
         sentences.test(TERMS, "C times 2^T, a byte goes out; C times 2^T (as T is then), a byte goes out",
                 CoderTests::lastTwoBytes);
-        sentences.test(TERMS, "if the last byte isn't 255, a byte 255; a byte 172", CoderTests::theMark);
+        sentences.test(TERMS, "then, if the last byte isn't 255, a byte 255; a byte 172", CoderTests::theMark);
     }
 
     private static void bytesRead(Sentences sentences) {
         sentences.test(TERMS, "Bytes behind the last one count as 255", CoderTests::behindTheLast);
         sentences.test(TERMS, "B is the place 0", CoderTests::readingBeginsAnew);
-        sentences.test(TERMS, "if the next one is above 143, C is 65280 more, T 8", CoderTests::beforeAMark);
+        sentences.test(TERMS, "C is byte 0 times 2^16, a byte COMES IN, C times 2^7, T 7 less, A 32768",
+                CoderTests::readingBegins);
+        sentences.test(TERMS, "A BYTE COMES IN: if the byte at B is 255: if the next one is above 143, C is 65280"
+                + " more, T 8", CoderTests::beforeAMark);
         sentences.test(TERMS, "else B is 1 more, C is that byte times 2^9 more, T 7", CoderTests::read255);
         sentences.test(TERMS, "If it isn't: B is 1 more, C is that byte times 2^8 more, T 8",
                 CoderTests::readOthers);
     }
 
     private static void bitsRead(Sentences sentences) {
-        sentences.test(TERMS, "If C is below q times 2^16", CoderTests::lowerPart);
+        sentences.test(TERMS, "A bit: A less q. If C is below q times 2^16", CoderTests::lowerPart);
         sentences.test(TERMS,
                 "if A is below q, it is the likely one, and A is q, else the other one, and A is q",
                 CoderTests::lowerPartExchanged);
-        sentences.test(TERMS, "if A is 32768 at least it is the likely one, and that's all",
-                CoderTests::upperPartAndNoMore);
+        sentences.test(TERMS, "Else C is q times 2^16 less; if A is 32768 at least it is the likely one, and that's"
+                + " all", CoderTests::upperPartAndNoMore);
         sentences.test(TERMS, "if A is below q, it is the other one, else the likely one",
                 CoderTests::upperPartExchanged);
         sentences.test(TERMS, "The likely one turns, and the next state comes, as in writing",
                 CoderTests::readingFollowsWriting);
-        sentences.test(TERMS, "A and C are doubled, T is 1 less; again as long as A is below 32768",
-                CoderTests::readUntilAIsLarge);
+        sentences.test(TERMS, "then: when T is 0 a byte comes in; A and C are doubled, T is 1 less; again as long as"
+                + " A is below 32768", CoderTests::readUntilAIsLarge);
         sentences.test(TERMS, "C is kept to 32 bits", CoderTests::cIsKeptTo32Bits);
     }
 
@@ -83,6 +98,29 @@ public final class CoderTests {
         x.decode();
         CHECKS.same(what + ": read back", Scene.found(x, picture[0].length(), picture.length),
                 String.join(" ", picture));
+    }
+
+    /** The pixel of the reference says in which of two contexts the bit is. */
+    private static void eachContextHasItsOwn() {
+        RefineRegions x = Scene.white(1, 1, 0, false);
+        x.keep(true);
+        bitOfTwoContexts(x, false, true, 3, 0);
+        bitOfTwoContexts(x, true, false, 3, 2);
+        bitOfTwoContexts(x, true, false, 3, 4);
+        bitOfTwoContexts(x, false, false, 13, 4);
+        bitOfTwoContexts(x, true, true, 13, 18);
+    }
+
+    private static void bitOfTwoContexts(RefineRegions x, boolean other, boolean black, int due, int dueOther) {
+        x.refer(0, 0, other);
+        x.put(0, 0, black);
+        x.encode();
+        x.decode();
+        CHECKS.same("read back", x.at(0, 0), black ? 1 : 0);
+        CHECKS.same("the one context in writing", x.state(0, false), due);
+        CHECKS.same("the one context in reading", x.state(0, true), due);
+        CHECKS.same("the other context in writing", x.state(256, false), dueOther);
+        CHECKS.same("the other context in reading", x.state(256, true), dueOther);
     }
 
     private static void statesAtFirst() {
@@ -100,9 +138,36 @@ public final class CoderTests {
         List<List<Boolean>> ways = waysToStates();
         for (int state = 0; state < 46; state++) {
             CHECKS.holds("there is a way to state " + state, ways.get(state) != null);
-            walk(ways.get(state), true);
-            walk(ways.get(state), false);
+            RefineRegions x = inState(ways.get(state));
+            goOn(x, true);
+            RefineRegions y = inState(ways.get(state));
+            goOn(y, false);
         }
+    }
+
+    /** Where A is 32768, the bytes of twice q are just those from which on C isn't below q any more. */
+    private static void sharesOfStates() {
+        Document document = new Document();
+        if (document.isThere()) {
+            CHECKS.same("the table", Arrays.deepToString(Oracle.TABLE), Arrays.deepToString(document.table()));
+        }
+        List<List<Boolean>> ways = waysToStates();
+        for (int state = 0; state < 46; state++) {
+            int q = Oracle.TABLE[state][0];
+            boolean exchanged = 32768 - q < q;
+            RefineRegions x = inState(ways.get(state));
+            int likely = x.state(0, true) & 1;
+            CHECKS.same("C is q, state " + state, readTwoBytes(x, 2 * q), exchanged ? 1 - likely : likely);
+            RefineRegions y = inState(ways.get(state));
+            CHECKS.same("C is less, state " + state, readTwoBytes(y, 2 * q - 1), exchanged ? likely : 1 - likely);
+        }
+    }
+
+    private static int readTwoBytes(RefineRegions x, int both) {
+        x.wipe();
+        x.feed(2, both >> 8 | (both & 255) << 8);
+        x.decode();
+        return x.at(0, 0);
     }
 
     /** For each state the shortest way to it: whether the bits are the likely ones. */
@@ -128,24 +193,27 @@ public final class CoderTests {
         return ways;
     }
 
-    private static void walk(List<Boolean> way, boolean lastIsLikely) {
+    private static RefineRegions inState(List<Boolean> way) {
         RefineRegions x = Scene.white(1, 1, 0, false);
         x.keep(true);
-        List<Boolean> all = new ArrayList<>(way);
-        all.add(lastIsLikely);
-        int state = 0;
-        int likely = 0;
-        for (boolean isLikely : all) {
-            int bit = isLikely ? likely : 1 - likely;
-            x.put(0, 0, bit == 1);
-            x.encode();
-            x.decode();
-            CHECKS.same("the bit of state " + state, x.at(0, 0), bit);
-            likely ^= isLikely ? 0 : Oracle.TABLE[state][3];
-            state = Oracle.TABLE[state][isLikely ? 1 : 2];
-            CHECKS.same("the next state in writing", x.state(0, false), 2 * state + likely);
-            CHECKS.same("the next state in reading", x.state(0, true), 2 * state + likely);
+        for (boolean isLikely : way) {
+            goOn(x, isLikely);
         }
+        return x;
+    }
+
+    private static void goOn(RefineRegions x, boolean isLikely) {
+        int state = x.state(0, false) / 2;
+        int likely = x.state(0, false) % 2;
+        int bit = isLikely ? likely : 1 - likely;
+        x.put(0, 0, bit == 1);
+        x.encode();
+        x.decode();
+        CHECKS.same("the bit of state " + state, x.at(0, 0), bit);
+        int next = 2 * Oracle.TABLE[state][isLikely ? 1 : 2]
+                + (isLikely ? likely : likely ^ Oracle.TABLE[state][3]);
+        CHECKS.same("the next state in writing", x.state(0, false), next);
+        CHECKS.same("the next state in reading", x.state(0, true), next);
     }
 
     private static void writingBeginsAnew() {
@@ -230,6 +298,60 @@ public final class CoderTests {
 
     private static void renewedUntilAIsLarge() {
         coded("A comes to 32768 just", "BA 4F FF AC", Scene.rows("#.####.###"), "#.#.##.#.#");
+    }
+
+    /** How often A is doubled tells how many bytes go out: one after 12 times, then after 8 or 7. */
+    private static void bytesGoOutInTime() {
+        for (int width = 1; width <= 40; width++) {
+            bytesAreAsMany(width, 1, 3 * width);
+        }
+        for (int i = 0; i < 40; i++) {
+            bytesAreAsMany(12, 1 + i % 12, i);
+        }
+    }
+
+    private static void bytesAreAsMany(int width, int height, int kind) {
+        RefineRegions x = Scene.white(width, height, 0, false);
+        for (int i = 0; i < width * height; i++) {
+            x.put(i % width, i / width, (i * i * 7 + i * kind + kind) % 11 < 5);
+        }
+        x.encode();
+        int left = doublings(x, width, height);
+        int sent = 0;
+        int t = 12;
+        while (left >= t) {
+            left -= t;
+            t = x.byteAt(sent - 1) == 255 ? 7 : 8;
+            sent++;
+        }
+        int due = sent + 2 + (x.byteAt(sent + 1) == 255 ? 1 : 2);
+        CHECKS.same("bytes of " + width + " by " + height + ", kind " + kind, x.told(0), due);
+    }
+
+    /** A by itself: C has no say in how often it is doubled. */
+    private static int doublings(RefineRegions x, int width, int height) {
+        int[] states = new int[8192];
+        int[] likely = new int[8192];
+        int a = 32768;
+        int doublings = 0;
+        x.decode();
+        for (int i = 0; i < width * height; i++) {
+            int context = x.context(i % width, i / width);
+            int[] row = Oracle.TABLE[states[context]];
+            boolean isLikely = x.at(i % width, i / width) == likely[context];
+            a -= row[0];
+            if (isLikely && a >= 32768) {
+                continue;
+            }
+            a = isLikely ? Math.max(a, row[0]) : Math.min(a, row[0]);
+            states[context] = row[isLikely ? 1 : 2];
+            likely[context] ^= isLikely ? 0 : row[3];
+            while (a < 32768) {
+                a *= 2;
+                doublings++;
+            }
+        }
+        return doublings;
     }
 
     private static void behind255() {
@@ -332,6 +454,14 @@ public final class CoderTests {
         x.wipe();
         x.decode();
         CHECKS.same("B where no byte is", x.told(4), 0);
+    }
+
+    private static void readingBegins() {
+        // C is 22017 times 2^16, the q of state 0, or a byte's last bit less; T is 1.
+        CHECKS.same("C is q: A is doubled twice", Scene.read(1, 1, "AC 02 00"), "# B 2");
+        CHECKS.same("C is less: A is doubled once", Scene.read(1, 1, "AC 01 00"), ". B 1");
+        CHECKS.same("behind 255, T is 0", Scene.read(1, 1, "FF 00 FF 8F"), "# B 2");
+        CHECKS.same("A is 32768", Scene.read(6, 2, "44 BC 8F 90 8F FF 8F"), "...### ..#.## B 3");
     }
 
     private static void beforeAMark() {

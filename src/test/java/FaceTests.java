@@ -5,6 +5,8 @@ import java.lang.reflect.Modifier;
 import java.nio.file.Files;
 import java.nio.file.Path;
 import java.util.Arrays;
+import java.util.List;
+import java.util.Map;
 import java.util.Set;
 import java.util.TreeSet;
 import java.util.regex.Pattern;
@@ -34,10 +36,14 @@ public final class FaceTests {
     };
 
     public static void main(String[] args) throws Exception {
+        String source = Files.readString(Path.of("src/main/java/RefineRegions.java"));
         methodsAreThoseOfTheDocument();
+        if (new Document().isThere()) {
+            faceIsTheDocuments(new Document(), source.replaceAll("\\s+", " "));
+        }
         fieldsAndConstructors();
         nestedClasses();
-        sourceKeepsToTheLanguage(Files.readString(Path.of("src/main/java/RefineRegions.java")));
+        sourceKeepsToTheLanguage(source);
         CHECKS.end("FaceTests");
     }
 
@@ -57,11 +63,29 @@ public final class FaceTests {
         }
     }
 
+    /** Every declaration of the document stands in the source, with the names of its parameters. */
+    private static void faceIsTheDocuments(Document document, String source) {
+        List<String> face = document.face();
+        CHECKS.same("a constant, a constructor and the methods", face.size(), 2 + FACE.length);
+        CHECKS.same("the constant", face.get(0), "public static final int NONE = -1");
+        CHECKS.holds("the constant stands in the source", source.contains(face.get(0) + ";"));
+        for (String declaration : face.subList(1, face.size())) {
+            CHECKS.holds("in the source: " + declaration, source.contains(" " + declaration + " {"));
+        }
+        Map<Integer, String> promised = document.declarations();
+        CHECKS.same("promises", promised.size(), 1 + FACE.length);
+        for (int promise = 1; promise <= promised.size(); promise++) {
+            CHECKS.same("promise " + promise, "public " + promised.get(promise), face.get(promise));
+        }
+    }
+
     private static void fieldsAndConstructors() {
         CHECKS.same("the class", Modifier.toString(RefineRegions.class.getModifiers()), "public final");
         for (Field field : RefineRegions.class.getDeclaredFields()) {
             CHECKS.holds("a field that is seen: " + field,
                     Modifier.isPrivate(field.getModifiers()) || field.getName().equals("NONE"));
+            CHECKS.holds("static fields are final: " + field,
+                    !Modifier.isStatic(field.getModifiers()) || Modifier.isFinal(field.getModifiers()));
         }
         Constructor<?>[] constructors = RefineRegions.class.getDeclaredConstructors();
         CHECKS.same("constructors", constructors.length, 1);

@@ -1,6 +1,6 @@
 import java.util.function.Consumer;
 
-/** The sentences of the promises that name a boundary, each by itself; Terms have their own. */
+/** The sentences of the promises, each by itself; TermsTests and CoderTests have those of 'Terms'. */
 public final class SentenceTests {
     private static final int NONE = -1;
     private static final int LEAST = Integer.MIN_VALUE;
@@ -11,7 +11,11 @@ public final class SentenceTests {
     private static final Refusals REFUSALS = new Refusals(CHECKS);
 
     public static void main(String[] args) {
-        Sentences sentences = new Sentences(CHECKS);
+        all(Sentences.running(CHECKS));
+        CHECKS.end("SentenceTests");
+    }
+
+    static void all(Sentences sentences) {
         aNewObject(sentences);
         pictures(sentences);
         references(sentences);
@@ -19,7 +23,6 @@ public final class SentenceTests {
         bytes(sentences);
         reading(sentences);
         telling(sentences);
-        CHECKS.end("SentenceTests");
     }
 
     private static void aNewObject(Sentences sentences) {
@@ -42,6 +45,7 @@ public final class SentenceTests {
                 SentenceTests::shapeRefusesSizes);
         sentences.test(p2, "or template not 0 or 1", SentenceTests::shapeRefusesTemplates);
         String p3 = "Promise 3";
+        sentences.test(p3, "A pixel of the picture", SentenceTests::putPaints);
         sentences.test(p3, "Answers whether it was black", SentenceTests::putAnswers);
         sentences.test(p3, "IndexOutOfBoundsException: there is none such", SentenceTests::putRefuses);
     }
@@ -52,6 +56,7 @@ public final class SentenceTests {
         sentences.test(p4, "IllegalArgumentException: width, height are not 1 to 60",
                 SentenceTests::referenceRefuses);
         String p5 = "Promise 5";
+        sentences.test(p5, "A pixel of the reference", SentenceTests::referPaints);
         sentences.test(p5, "Answers whether it was black", SentenceTests::referAnswers);
         sentences.test(p5, "IllegalStateException: there is no reference", SentenceTests::referNeedsOne);
         sentences.test(p5, "IndexOutOfBoundsException: there is no such pixel", SentenceTests::referRefuses);
@@ -68,13 +73,14 @@ public final class SentenceTests {
                 SentenceTests::adaptiveRefusesOthers);
         sentences.test(p7, "or it cannot be there", SentenceTests::adaptiveRefusesPlaces);
         String p8 = "Promise 8";
-        sentences.test(p8, "go on with the states that the last one left (each has its own)",
-                SentenceTests::keepGoesOn);
+        sentences.test(p8, "Whether encode() and decode() go on with the states that the last one left (each has"
+                + " its own)", SentenceTests::keepGoesOn);
         sentences.test(p8, "or begin with those at first (so at first)", SentenceTests::keepIsOffAtFirst);
     }
 
     private static void bytes(Sentences sentences) {
         String p9 = "Promise 9";
+        sentences.test(p9, "The picture becomes bytes", SentenceTests::encodeWrites);
         sentences.test(p9, "in place of those there were. Answers how many", SentenceTests::encodeReplaces);
         sentences.test(p9, "IllegalStateException: there is no reference", SentenceTests::encodeNeedsOne);
         String p10 = "Promise 10";
@@ -89,7 +95,8 @@ public final class SentenceTests {
 
     private static void reading(Sentences sentences) {
         String p13 = "Promise 13";
-        sentences.test(p13, "a picture of the same width and height, with the same template, reference and so on",
+        sentences.test(p13, "The bytes are read", SentenceTests::decodeReadsTheBytes);
+        sentences.test(p13, "as a picture of the same width and height, with the same template, reference and so on",
                 SentenceTests::decodeReadsTheSame);
         sentences.test(p13, "Answers how many pixels are black", SentenceTests::decodeAnswers);
         sentences.test(p13, "IllegalStateException: there is no reference", SentenceTests::decodeNeedsOne);
@@ -280,6 +287,19 @@ public final class SentenceTests {
         }
     }
 
+    private static void putPaints() {
+        RefineRegions x = Scene.white(5, 4, 1, false);
+        for (int i = 0; i < 20; i++) {
+            x.put(i % 5, i / 5, true);
+            x.encode();
+            CHECKS.same("one black pixel", x.decode(), 1);
+            CHECKS.same("this one", x.at(i % 5, i / 5), 1);
+            x.put(i % 5, i / 5, false);
+            CHECKS.same("it is white again", x.told(5), 1);
+        }
+        CHECKS.same("the reference has none of it", x.refer(0, 0, false) ? 1 : 0, 0);
+    }
+
     private static void putAnswers() {
         RefineRegions x = new RefineRegions();
         int[][] corners = {{0, 0}, {7, 0}, {0, 7}, {7, 7}};
@@ -330,6 +350,20 @@ public final class SentenceTests {
             refusedAlways("height " + wrong, BAD_ARGUMENT, x -> x.reference(7, wrong));
             refusedAlways("both " + wrong, BAD_ARGUMENT, x -> x.reference(wrong, wrong));
         }
+    }
+
+    private static void referPaints() {
+        RefineRegions x = new RefineRegions();
+        x.shape(6, 5, 0, false);
+        x.reference(6, 5);
+        for (int i = 0; i < 30; i++) {
+            x.refer(i % 6, i / 6, true);
+            CHECKS.same("this one is black", x.context(i % 6, i / 6), 1 << 8);
+            x.refer(i % 6, i / 6, false);
+            CHECKS.same("it is white again", x.context(i % 6, i / 6), 0);
+        }
+        x.refer(0, 0, true);
+        CHECKS.same("the picture has none of it", x.put(0, 0, false) ? 1 : 0, 0);
     }
 
     private static void referAnswers() {
@@ -486,6 +520,27 @@ public final class SentenceTests {
         CHECKS.same("decode begins anew again", x.state(0, true), 3);
     }
 
+    /** The bytes were worked out apart from the class. */
+    private static void encodeWrites() {
+        String[] picture = Scene.rows("........", "..####..", ".#..#.#.", ".######.", "..####..", "#.......");
+        String[] reference = Scene.rows("........", "...###..", "..#####.", "..#####.", "...###..", "........");
+        String[] due = {"A9 85 EF D4 D0 BF FF AC", "BF D7 32 97 DA 5D FF AC", "A8 4E FF 37 DC E7 FF AC",
+            "CD D4 61 F6 4A B7 FF AC"};
+        for (int i = 0; i < 4; i++) {
+            RefineRegions x = Scene.of(i / 2, i % 2 == 1, picture, reference);
+            x.offset(-1, 0);
+            x.adaptive(0, -2, 0);
+            x.adaptive(1, 1, -2);
+            x.encode();
+            CHECKS.same("template " + i / 2 + ", typical " + i % 2, Scene.bytes(x), due[i]);
+            StringBuilder still = new StringBuilder();
+            for (int k = 0; k < 48; k++) {
+                still.append(x.put(k % 8, k / 8, true) ? '#' : '.');
+            }
+            CHECKS.same("the picture stays", still.toString(), String.join("", picture));
+        }
+    }
+
     private static void encodeReplaces() {
         RefineRegions x = Scene.white(1, 1, 0, false);
         x.feed(8, 0x0102030405060708L);
@@ -617,6 +672,25 @@ public final class SentenceTests {
         x.wipe();
         x.feed(1, 9L);
         CHECKS.same("one that was there before", x.byteAt(1), NONE);
+    }
+
+    private static void decodeReadsTheBytes() {
+        RefineRegions x = Scene.white(5, 4, 0, false);
+        Scene.feed(x, "E5 05 EA 7F FF AC");
+        CHECKS.same("black ones", x.decode(), 11);
+        CHECKS.same("bytes that were fed", Scene.found(x, 5, 4), "###.# .##.# #..## ...#.");
+        CHECKS.same("they stay", Scene.bytes(x), "E5 05 EA 7F FF AC");
+        x.put(0, 0, true);
+        x.decode();
+        CHECKS.same("whatever the picture is", Scene.found(x, 5, 4), "###.# .##.# #..## ...#.");
+        x.wipe();
+        Scene.feed(x, "E5 05 EA 7F");
+        x.decode();
+        CHECKS.same("without the mark", Scene.found(x, 5, 4), "###.# .##.# #..## ...#.");
+        x.wipe();
+        Scene.feed(x, "13");
+        x.decode();
+        CHECKS.holds("other bytes, another picture", !Scene.found(x, 5, 4).equals("###.# .##.# #..## ...#."));
     }
 
     private static void decodeReadsTheSame() {

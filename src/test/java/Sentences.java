@@ -1,28 +1,35 @@
-import java.io.IOException;
-import java.io.UncheckedIOException;
-import java.nio.file.Files;
-import java.nio.file.Path;
+import java.util.ArrayList;
+import java.util.BitSet;
 import java.util.HashMap;
 import java.util.HashSet;
+import java.util.List;
 import java.util.Map;
 import java.util.Set;
 
 /**
  * Runs tests that are named by a section of the document and a sentence in it. That the sentence
- * stands there is looked at too, so that a test cannot go on for a sentence that has changed.
+ * stands there is looked at too, so that a test cannot go on for a sentence that has changed; and
+ * what no test is named by can be asked for, so that no sentence goes without one.
  */
 final class Sentences {
-    private static final Path DOCUMENT = Path.of("../shared/DOC.md");
-
     private final Checks checks;
-    private final Map<String, String> sections = new HashMap<>();
+    private final boolean running;
+    private final Document document = new Document();
+    private final Map<String, BitSet> named = new HashMap<>();
     private final Set<String> names = new HashSet<>();
 
-    Sentences(Checks checks) {
+    private Sentences(Checks checks, boolean running) {
         this.checks = checks;
-        if (Files.isReadable(DOCUMENT)) {
-            readSections();
-        }
+        this.running = running;
+    }
+
+    static Sentences running(Checks checks) {
+        return new Sentences(checks, true);
+    }
+
+    /** Takes note of the tests' names alone. */
+    static Sentences listing(Checks checks) {
+        return new Sentences(checks, false);
     }
 
     void test(String section, String sentence, Runnable body) {
@@ -30,23 +37,41 @@ final class Sentences {
         int wrongBefore = checks.wrong();
         checks.holds(name + " (one test has this name)", names.add(name));
         checks.holds(name + " (the sentence stands in the document)", stands(section, sentence));
-        checks.fine(name, body);
-        System.out.println((checks.wrong() == wrongBefore ? "ok     " : "WRONG  ") + name);
+        if (running) {
+            checks.fine(name, body);
+            System.out.println((checks.wrong() == wrongBefore ? "ok     " : "WRONG  ") + name);
+        }
     }
 
     private boolean stands(String section, String sentence) {
-        return sections.isEmpty() || sections.getOrDefault(section, "").contains(sentence);
+        if (!document.isThere()) {
+            return true;
+        }
+        String saying = document.saying(section);
+        BitSet marks = named.computeIfAbsent(section, key -> new BitSet());
+        int at = saying.indexOf(sentence);
+        boolean stands = at >= 0;
+        while (at >= 0) {
+            marks.set(at, at + sentence.length());
+            at = saying.indexOf(sentence, at + 1);
+        }
+        return stands;
     }
 
-    /** The key of a section is its heading up to a colon: 'Terms', 'Promise 1'. */
-    private void readSections() {
-        try {
-            for (String section : Files.readString(DOCUMENT).split("(?m)^## ")) {
-                String heading = section.lines().findFirst().orElse("");
-                sections.put(heading.split(":")[0].trim(), section.replaceAll("\\s+", " "));
+    /** The words of a section that are part of no test's name. */
+    List<String> withoutTest(String section) {
+        String saying = document.saying(section);
+        BitSet marks = named.getOrDefault(section, new BitSet());
+        List<String> rest = new ArrayList<>();
+        int from = marks.nextClearBit(0);
+        while (from < saying.length()) {
+            int to = marks.nextSetBit(from) < 0 ? saying.length() : marks.nextSetBit(from);
+            String words = saying.substring(from, to).replaceAll("[^A-Za-z0-9]+", " ").trim();
+            if (!words.isEmpty()) {
+                rest.add(words);
             }
-        } catch (IOException e) {
-            throw new UncheckedIOException(e);
+            from = marks.nextClearBit(to);
         }
+        return rest;
     }
 }

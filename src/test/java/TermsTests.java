@@ -1,6 +1,6 @@
 import java.util.function.BiPredicate;
 
-/** The sentences of 'Terms' about pictures, contexts and rows that name a boundary, each by itself. */
+/** The sentences of 'What it is', and those of 'Terms' about pictures, contexts and rows. */
 public final class TermsTests {
     private static final int NONE = -1;
     private static final String TERMS = "Terms";
@@ -13,12 +13,28 @@ public final class TermsTests {
     private static final int[][] REFERENCE_PLACES_1 = {{1, 1}, {0, 1}, {1, 0}, {0, 0}, {-1, 0}, {0, -1}};
 
     public static void main(String[] args) {
-        Sentences sentences = new Sentences(CHECKS);
+        all(Sentences.running(CHECKS));
+        CHECKS.end("TermsTests");
+    }
+
+    static void all(Sentences sentences) {
+        whatItIs(sentences);
         sizes(sentences);
         contexts(sentences);
         rows(sentences);
         refusedCalls(sentences);
-        CHECKS.end("TermsTests");
+    }
+
+    private static void whatItIs(Sentences sentences) {
+        String what = "What it is";
+        sentences.test(what, "Pictures of black and white that refine others: each pixel is coded by those"
+                + " around it that are known", TermsTests::codedByKnownPixels);
+        sentences.test(what, "and by the nine around its place in a reference", TermsTests::codedByTheNine);
+        sentences.test(what, "with an adaptive coder of bits", TermsTests::coderAdapts);
+        sentences.test(what, "where the nine agree a row may do without", TermsTests::rowsDoWithout);
+        sentences.test(what, "what is read back may be the next one's reference", TermsTests::nextReference);
+        sentences.test(what, "An object is used for at most 512 calls after it has been made",
+                TermsTests::callsUpTo512);
     }
 
     private static void sizes(Sentences sentences) {
@@ -34,7 +50,13 @@ public final class TermsTests {
 
     private static void contexts(Sentences sentences) {
         sentences.test(TERMS, "THE CONTEXT of a pixel at (x, y) is a number of bits, the lowest first",
-                TermsTests::contextBits);
+                TermsTests::contextsAddUp);
+        sentences.test(TERMS, "TEMPLATE 0: of the picture (x - 1, y), (x + 1, y - 1), (x, y - 1), and the one at"
+                + " its ADAPTIVE place 0; of the reference, about (x, y): (1, 1), (0, 1), (-1, 1), (1, 0), (0, 0),"
+                + " (-1, 0), (1, -1), (0, -1), and the one at adaptive place 1", () -> contextBits(0));
+        sentences.test(TERMS, "TEMPLATE 1: of the picture (x - 1, y), (x + 1, y - 1), (x, y - 1), (x - 1, y - 1);"
+                + " of the reference (1, 1), (0, 1), (1, 0), (0, 0), (-1, 0), (0, -1)", () -> contextBits(1));
+        sentences.test(TERMS, "Adaptive places are (x + p, y + q)", TermsTests::adaptivePlacesAnywhere);
         sentences.test(TERMS, "both (-1, -1) at first", TermsTests::adaptivePlacesAtFirst);
         sentences.test(TERMS, "place 0 with q below 0, p -16 to 15", TermsTests::place0Above);
         sentences.test(TERMS, "or q 0, p -16 to -1", TermsTests::place0Beside);
@@ -45,12 +67,12 @@ public final class TermsTests {
     private static void rows(Sentences sentences) {
         sentences.test(TERMS, "CODING goes row by row, each from left to right, y and x from 0 on",
                 TermsTests::orderOfCoding);
-        sentences.test(TERMS, "each row begins with a bit, in the context 16 (template 0) or 8 (template 1)",
-                TermsTests::contextOfARow);
+        sentences.test(TERMS, "If it is TYPICAL, each row begins with a bit, in the context 16 (template 0) or 8"
+                + " (template 1)", TermsTests::contextOfARow);
         sentences.test(TERMS,
                 "whether the row is done otherwise than the one before (the first one: than plain)",
                 TermsTests::bitOfARow);
-        sentences.test(TERMS, "a pixel for which the nine reference pixels about its place are all alike is"
+        sentences.test(TERMS, "In a row done typically a pixel for which the nine reference pixels about its place are all alike is"
                 + " that, and isn't coded (SKIPPED)", TermsTests::skippedPixels);
         sentences.test(TERMS, "All other pixels are coded each in its context", TermsTests::otherPixels);
         sentences.test(TERMS,
@@ -59,8 +81,126 @@ public final class TermsTests {
     }
 
     private static void refusedCalls(Sentences sentences) {
+        sentences.test(TERMS, "Methods throw what their comments name", TermsTests::everyException);
         sentences.test(TERMS, "the one named first when several would do", TermsTests::firstNamedException);
         sentences.test(TERMS, "a call that throws changes nothing", TermsTests::refusalsInARow);
+    }
+
+    /** Black from the pixel itself on, to the end of the picture: none of that is known yet. */
+    private static void codedByKnownPixels() {
+        for (int template = 0; template < 2; template++) {
+            for (int q = -16; q <= 0; q++) {
+                RefineRegions x = blackFromThePixelOn(template);
+                for (int p = -16; p <= (q == 0 ? -1 : 15); p++) {
+                    x.adaptive(0, p, q);
+                    CHECKS.same("nothing known is black, place 0 at " + p + ", " + q, x.context(20, 20), 0);
+                }
+            }
+            RefineRegions x = blackFromThePixelOn(template);
+            x.put(19, 20, true);
+            CHECKS.same("now the pixel before is black", x.context(20, 20), 1);
+            x.encode();
+            x.decode();
+            CHECKS.same("reading knows as much", x.told(5), 0);
+        }
+    }
+
+    private static RefineRegions blackFromThePixelOn(int template) {
+        RefineRegions x = Scene.white(40, 22, template, false);
+        for (int i = 20 * 40 + 20; i < 22 * 40; i++) {
+            x.put(i % 40, i / 40, true);
+        }
+        return x;
+    }
+
+    private static void codedByTheNine() {
+        for (int template = 0; template < 2; template++) {
+            RefineRegions x = new RefineRegions();
+            x.shape(9, 9, template, false);
+            x.reference(9, 9);
+            for (int i = 0; i < 81; i++) {
+                boolean near = Math.abs(i % 9 - 4) <= 1 && Math.abs(i / 9 - 4) <= 1;
+                x.refer(i % 9, i / 9, !near);
+            }
+            CHECKS.same("all is black but the nine", x.context(4, 4), 0);
+            for (int i = 0; i < 81; i++) {
+                boolean near = Math.abs(i % 9 - 4) <= 1 && Math.abs(i / 9 - 4) <= 1;
+                x.refer(i % 9, i / 9, near);
+            }
+            CHECKS.same("only the nine are black", x.context(4, 4), template == 0 ? 8191 - 15 : 1023 - 15);
+        }
+    }
+
+    private static void coderAdapts() {
+        RefineRegions x = Scene.white(40, 40, 0, false);
+        x.keep(true);
+        CHECKS.same("1600 white pixels", x.encode(), 3);
+        CHECKS.same("1600 more", x.encode(), 4);
+        x.keep(false);
+        for (int i = 0; i < 40; i++) {
+            x.put(i, 7 * i % 40, true);
+        }
+        int once = x.encode();
+        x.keep(true);
+        CHECKS.holds("the same again is shorter, since the coder knows it", x.encode() < once);
+    }
+
+    private static void rowsDoWithout() {
+        RefineRegions x = Scene.of(0, true, Scene.rows("....", "....", "....", "...."), Scene.rows("....", "....",
+                "....", "...#"));
+        x.encode();
+        CHECKS.same("pixels whose nine agree", x.told(1), 12);
+        CHECKS.same("bits for the rows and the others", x.told(3), 4 + 4);
+        x.put(0, 2, true);
+        x.encode();
+        CHECKS.same("it only may: that row codes all", x.told(1), 10);
+        CHECKS.same("bits then", x.told(3), 4 + 6);
+    }
+
+    /** One object writes, another one reads; each refines what it has read the last time. */
+    private static void nextReference() {
+        RefineRegions sender = Scene.of(0, true, Scene.rows("......", "......", "......"), Scene.rows("."));
+        RefineRegions receiver = Scene.white(6, 3, 0, true);
+        String[][] pictures = {{"..##..", ".####.", "..##.."}, {"..##..", ".#####", "..##.."},
+            {"..###.", "######", "..###."}, {"..###.", "######", "..###."}};
+        for (String[] picture : pictures) {
+            sender.keep(true);
+            receiver.keep(true);
+            for (int i = 0; i < 18; i++) {
+                sender.put(i % 6, i / 6, picture[i / 6].charAt(i % 6) == '#');
+            }
+            sender.encode();
+            sender.decode();
+            sender.take();
+            receiver.wipe();
+            Scene.feed(receiver, Scene.bytes(sender));
+            receiver.decode();
+            CHECKS.same("what is received", Scene.found(receiver, 6, 3), String.join(" ", picture));
+            CHECKS.holds("it becomes the reference", receiver.take());
+        }
+        CHECKS.same("of the last reference", receiver.context(3, 1) >> 4, sender.context(3, 1) >> 4);
+    }
+
+    /** Calls that do the most, up to the last one that is promised. */
+    private static void callsUpTo512() {
+        RefineRegions x = new RefineRegions();
+        Oracle oracle = new Oracle();
+        x.shape(40, 40, 0, true);
+        oracle.shape(40, 40, 0, true);
+        x.reference(60, 60);
+        oracle.reference(60, 60);
+        x.keep(true);
+        oracle.keep(true);
+        for (int call = 4; call <= 508; call += 3) {
+            int u = call % 40;
+            int v = call * 7 % 40;
+            boolean black = call % 5 > 0;
+            CHECKS.same("put, call " + call, x.put(u, v, black) ? 1 : 0, oracle.put(u, v, black) ? 1 : 0);
+            CHECKS.same("encode, call " + (call + 1), x.encode(), oracle.encode());
+            CHECKS.same("decode, call " + (call + 2), x.decode(), oracle.decode());
+        }
+        CHECKS.same("told, call 511", x.told(5), 0);
+        CHECKS.same("encode, call 512", x.encode(), oracle.encode());
     }
 
     private static void pictureSizes() {
@@ -261,23 +401,44 @@ public final class TermsTests {
         CHECKS.same("beside what was taken", x.context(1, 1) >> 4, (1 << 4) + (1 << 5) + (1 << 7) + (1 << 8));
     }
 
-    private static void contextBits() {
+    /** Each place by itself. */
+    private static void contextBits(int template) {
+        RefineRegions x = new RefineRegions();
+        x.shape(5, 5, template, false);
+        x.reference(5, 5);
+        for (int i = 0; i < 25; i++) {
+            int right = i % 5 - 2;
+            int down = i / 5 - 2;
+            int[][] ofReference = template == 0 ? REFERENCE_PLACES_0 : REFERENCE_PLACES_1;
+            String place = right + ", " + down;
+            x.put(i % 5, i / 5, true);
+            CHECKS.same("picture, " + place, x.context(2, 2), weight(PICTURE_PLACES, right, down));
+            x.put(i % 5, i / 5, false);
+            x.refer(i % 5, i / 5, true);
+            CHECKS.same("reference, " + place, x.context(2, 2), weight(ofReference, right, down) << 4);
+            x.refer(i % 5, i / 5, false);
+        }
+    }
+
+    /** Many places at once: one more black pixel each time, in an order that mixes the two. */
+    private static void contextsAddUp() {
         for (int template = 0; template < 2; template++) {
             RefineRegions x = new RefineRegions();
-            x.shape(5, 5, template, false);
-            x.reference(5, 5);
-            for (int i = 0; i < 25; i++) {
-                int right = i % 5 - 2;
-                int down = i / 5 - 2;
-                int[][] ofReference = template == 0 ? REFERENCE_PLACES_0 : REFERENCE_PLACES_1;
-                String place = "template " + template + ", " + right + ", " + down;
-                x.put(i % 5, i / 5, true);
-                CHECKS.same("picture, " + place, x.context(2, 2), weight(PICTURE_PLACES, right, down));
-                x.put(i % 5, i / 5, false);
-                x.refer(i % 5, i / 5, true);
-                CHECKS.same("reference, " + place, x.context(2, 2), weight(ofReference, right, down) << 4);
-                x.refer(i % 5, i / 5, false);
+            x.shape(3, 3, template, false);
+            x.reference(3, 3);
+            int[][] ofReference = template == 0 ? REFERENCE_PLACES_0 : REFERENCE_PLACES_1;
+            int due = 0;
+            for (int i = 0; i < 9; i++) {
+                int u = i * 2 % 9 % 3;
+                int v = i * 2 % 9 / 3;
+                x.put(u, v, true);
+                due += weight(PICTURE_PLACES, u - 1, v - 1);
+                CHECKS.same("template " + template + ", " + (i + 1) + " of each", x.context(1, 1), due);
+                x.refer(2 - u, v, true);
+                due += weight(ofReference, 1 - u, v - 1) << 4;
+                CHECKS.same("template " + template + ", one more", x.context(1, 1), due);
             }
+            CHECKS.same("template " + template + ", all", due, template == 0 ? 8191 : 1023);
         }
     }
 
@@ -288,6 +449,25 @@ public final class TermsTests {
             }
         }
         return 0;
+    }
+
+    private static void adaptivePlacesAnywhere() {
+        RefineRegions x = new RefineRegions();
+        x.shape(40, 40, 0, false);
+        x.reference(60, 60);
+        x.put(20, 20, true);
+        x.refer(20, 20, true);
+        x.offset(3, -2);
+        int[][] places = {{-16, 0}, {-2, 0}, {15, -16}, {-16, -16}, {3, -1}, {0, -5}};
+        for (int[] place : places) {
+            x.adaptive(0, place[0], place[1]);
+            x.adaptive(1, place[0], place[1]);
+            String name = place[0] + ", " + place[1];
+            CHECKS.same("place 0 at " + name, x.context(20 - place[0], 20 - place[1]) & 15, 1 << 3);
+            CHECKS.same("place 1 at " + name, x.context(23 - place[0], 18 - place[1]) >> 4 << 4, 1 << 12);
+            CHECKS.same("beside place 0 at " + name, x.context(18 - place[0], 20 - place[1]) & 8, 0);
+            CHECKS.same("beside place 1 at " + name, x.context(21 - place[0], 18 - place[1]) >> 12, 0);
+        }
     }
 
     private static void adaptivePlacesAtFirst() {
@@ -535,6 +715,33 @@ public final class TermsTests {
             CHECKS.same(what + ": read back", Scene.found(x, picture[0].length(), picture.length),
                     String.join(" ", picture));
         }
+    }
+
+    /** For each method and each exception that its comment names; what isn't named is not thrown. */
+    private static void everyException() {
+        String argument = "IllegalArgumentException";
+        String index = "IndexOutOfBoundsException";
+        REFUSALS.always("shape", argument, x -> x.shape(0, 1, 0, false));
+        REFUSALS.always("put", index, x -> x.put(-1, 0, false));
+        REFUSALS.always("reference", argument, x -> x.reference(1, 0));
+        REFUSALS.withoutReference("refer", x -> x.refer(0, 0, false));
+        REFUSALS.withReference("refer", index, x -> x.refer(0, -1, false));
+        REFUSALS.withoutReference("offset", x -> x.offset(0, 0));
+        REFUSALS.withReference("offset", argument, x -> x.offset(0, 21));
+        REFUSALS.always("adaptive", argument, x -> x.adaptive(2, 0, 0));
+        REFUSALS.withoutReference("encode", x -> x.encode());
+        REFUSALS.always("feed", argument, x -> x.feed(0, 0L));
+        REFUSALS.withoutReference("decode", x -> x.decode());
+        REFUSALS.withoutReference("context", x -> x.context(0, 0));
+        REFUSALS.withReference("context", index, x -> x.context(0, -1));
+        REFUSALS.always("told", argument, x -> x.told(-1));
+        REFUSALS.always("state", argument, x -> x.state(-1, false));
+        RefineRegions x = new RefineRegions();
+        CHECKS.fine("keep", () -> x.keep(true));
+        CHECKS.fine("wipe", () -> x.wipe());
+        CHECKS.fine("byteAt", () -> x.byteAt(Integer.MIN_VALUE));
+        CHECKS.fine("at", () -> x.at(Integer.MAX_VALUE, Integer.MIN_VALUE));
+        CHECKS.fine("take", () -> x.take());
     }
 
     private static void firstNamedException() {
