@@ -223,6 +223,8 @@ public final class CoderTests {
             x.encode();
             CHECKS.same("the same picture " + i, Scene.bytes(x), "E5 05 EA 7F FF AC");
         }
+        coded("A is no less at first", "FF 7F FF AC", Scene.rows("#"), ".");
+        coded("A is no more at first", "FF 7F FF AC", Scene.rows("####", "..#.", "####", ".###"), ".");
         x.shape(1, 1, 0, false);
         x.keep(true);
         x.encode();
@@ -405,6 +407,9 @@ public final class CoderTests {
                 Scene.rows("........", "........", "........", "........",
                         "........", "........", "........", "........"), ".");
         coded("C is below U", "B7 FF AC", Scene.rows("#..", "..."), "...", "...");
+        coded("not fewer bits of C", "FF 7F FF AC", Scene.rows("#"), ".");
+        coded("not more bits of C", "E5 05 EA 7F FF AC", Scene.rows("###.#", ".##.#", "#..##", "...#."),
+                ".....", ".....", ".....", ".....");
     }
 
     private static void lastTwoBytes() {
@@ -461,7 +466,8 @@ public final class CoderTests {
         CHECKS.same("C is q: A is doubled twice", Scene.read(1, 1, "AC 02 00"), "# B 2");
         CHECKS.same("C is less: A is doubled once", Scene.read(1, 1, "AC 01 00"), ". B 1");
         CHECKS.same("behind 255, T is 0", Scene.read(1, 1, "FF 00 FF 8F"), "# B 2");
-        CHECKS.same("A is 32768", Scene.read(6, 2, "44 BC 8F 90 8F FF 8F"), "...### ..#.## B 3");
+        CHECKS.same("A is no less than 32768", Scene.read(3, 5, "FF 7B"), "### .#. .## .#. #.# B 2");
+        CHECKS.same("A is no more than 32768", Scene.read(3, 5, "FF 75"), "### .#. .## .#. ..# B 2");
     }
 
     private static void beforeAMark() {

@@ -776,6 +776,22 @@ public final class SentenceTests {
         x.wipe();
         x.decode();
         CHECKS.holds("nor is what is read next", x.refer(1, 0, true));
+        takeTakesAll(2, 7);
+        takeTakesAll(7, 2);
+    }
+
+    /** Every pixel by itself, of pictures that are higher than wide, and wider than high. */
+    private static void takeTakesAll(int width, int height) {
+        RefineRegions x = Scene.white(width, height, 0, false);
+        for (int i = 0; i < width * height; i++) {
+            x.put(i % width, i / width, true);
+            x.encode();
+            x.decode();
+            x.put(i % width, i / width, false);
+            CHECKS.same("one pixel differs", x.told(5), 1);
+            CHECKS.holds("take", x.take());
+            CHECKS.same("pixel " + i + " is taken", x.context(i % width, i / width), 1 << 8);
+        }
     }
 
     private static void takeAnswers() {
@@ -933,8 +949,23 @@ public final class SentenceTests {
         Scene.draw(x, ".#.", "###");
         x.put(2, 0, false);
         CHECKS.same("all", x.told(5), 6);
+        differencesOfEachPixel(2, 7);
+        differencesOfEachPixel(7, 2);
         x.shape(3, 2, 0, false);
         CHECKS.same("nothing was read since shape", x.told(5), NONE);
+    }
+
+    private static void differencesOfEachPixel(int width, int height) {
+        RefineRegions x = Scene.white(width, height, 0, false);
+        x.encode();
+        x.decode();
+        for (int i = 0; i < width * height; i++) {
+            x.put(i % width, i / width, true);
+            CHECKS.same("black up to pixel " + i, x.told(5), i + 1);
+        }
+        x.encode();
+        x.decode();
+        CHECKS.same("now it is read so", x.told(5), 0);
     }
 
     private static void toldRefuses() {

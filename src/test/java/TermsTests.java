@@ -178,7 +178,8 @@ public final class TermsTests {
             CHECKS.same("what is received", Scene.found(receiver, 6, 3), String.join(" ", picture));
             CHECKS.holds("it becomes the reference", receiver.take());
         }
-        CHECKS.same("of the last reference", receiver.context(3, 1) >> 4, sender.context(3, 1) >> 4);
+        CHECKS.same("the nine in the last reference", receiver.context(3, 1) >> 4, 511);
+        CHECKS.same("the nine at its border", receiver.context(0, 1) >> 4, (1 << 3) + (1 << 4));
     }
 
     /** Calls that do the most, up to the last one that is promised. */
